@@ -47,6 +47,15 @@ public final class HousesTest {
         Due.due("roots that keep a day", x.lotOf(roots, 8), 2);
         Due.due("bread that keeps 400 days", x.lotOf(bread, 8), 0);
         firstGoods();
+        HungerBooks y = new HungerBooks();
+        y.farm(0, 0);
+        y.house(0, 1, 0, 0, 0);
+        Due.due("one measure", y.good(0, 1, 1), true);
+        y.crop(0, 0, 5);
+        Due.due("good with one lot there", y.good(0, 2, 1), false);
+        y.deal(0, 5, 0, 0);
+        y.pass(1);
+        Due.due("pieces of one measure are eaten", y.houseOf(0, 1), 5);
     }
 
     /** Each GOOD's first MEASURES by what one piece feeds, its KEEPS by the day on which it spoils. */

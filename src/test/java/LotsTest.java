@@ -108,6 +108,11 @@ public final class LotsTest {
         Due.due("above the card again", x.buy(0, 0, 1, false), -3);
         Due.due("forged again", x.buy(0, 0, 4, true), 0);
         Due.due("an empty shop", x.buy(0, 0, 1, true), -2);
+        x.deliver(x.crop(0, 1, 3), 3);
+        Due.tell(x, "price egg 5;", 0);
+        Due.due("for all its coins", x.buy(0, 1, 1, true), 5);
+        Due.due("none are left", x.coins(0), 0);
+        Due.due("not the coins for one", x.buy(0, 1, 1, true), -4);
     }
 
     /** Of the LOTS there those BORN first, of one DAY by numbers. */
@@ -236,6 +241,10 @@ public final class LotsTest {
         Due.due("a lot that was dealt to the kin", x.parcel(dealt, 2, 0), 10);
         Due.tell(x, "parcel 0;", 1);
         Due.due("PARCEL 0", x.parcel(crop, 1, 2), NONE);
+        x.house(0, 1, 0, 1, 0);
+        Due.tell(x, "parcel 1;", 1);
+        Due.due("from the other farm to its kin", x.parcel(other, 1, 3), 11);
+        Due.due("not from the first one", x.parcel(crop, 1, 3), NONE);
     }
 
     private static void seizures() {

@@ -74,6 +74,9 @@ public final class OrdersTest {
             "quota oil kin/town-came+week*mouths;", "card ^mouths 1;", "^bread 1;", "need^;", "card bread ^not 1<2;",
             "card bread ^{1};", "card bread 1 if 1 < 2 and not { 1 = 2 or 3 > 4 } ;", "card bread 1 if 1<2 ^) ;", "^1;",
             "parcel 5;fine 7;ill 3^", "card bread ^-1;", "card bread 1 if mouths^;", "card bread (1^<2);", "^\u00e9",
+            "card ^;", "card bread ^;", "card bread 1*^;", "card bread 1/^;", "card bread 1-^;", "card bread 1 if 1<2 or^;",
+            "card bread 1 if 1<2 or 1^;", "card bread 1 if not 1^;", "card bread (1+2^;", "card bread 1 if {1<2 or 1^};",
+            "^xard bread 1;", "card ^xgg 1;", "card bread ^xouths;", "card bread 1 if ^xot 1<2;", "card bread 1 ^xf 1<2;",
             "card bread 1 if 1=^=1;", "card bread 1 if {1<2} ^{1<2};", "card bread 1 if not (^not 1<2);"};
         for (String marked : texts) {
             int place = marked.indexOf('^');
@@ -225,7 +228,9 @@ public final class OrdersTest {
         Object[][] rows = {{"1<2", 1}, {"2<2", 0}, {"2>2", 0}, {"3>2", 1}, {"2=2", 1}, {"2=3", 0}, {"not 1<2", 0}, {"not not 1<2", 1},
             {"1<2 or 1<2 and 1>2", 1}, {"{1<2 or 1<2} and 1>2", 0}, {"1>2 and 1<2 or 1<2", 1}, {"1>2 and {1<2 or 1<2}", 0},
             {"not 1>2 and 1>2", 0}, {"not {1>2 and 1>2}", 1}, {"not 1<2 or 1<2", 1}, {"1>2 or 1>2 or 1=1", 1},
-            {"1=1 and 2=2 and 3=4", 0}, {"1+1=4-2", 1}, {"0-1<0", 1}, {"0-5>0-6", 1}};
+            {"1=1 and 2=2 and 3=4", 0}, {"1+1=4-2", 1},
+            {"not 3>2", 0}, {"not 2=2", 0}, {"not 2<1", 1}, {"not {1<2 and 1<2}", 0}, {"not {1<2 or 1>2}", 0}, {"1>2 or 1>2", 0},
+            {"1<2 and 1<2", 1}, {"1<2 and 1>2", 0}, {"not {1>2 or 1>2}", 1}, {"0-1<0", 1}, {"0-5>0-6", 1}};
         for (Object[] r : rows) Due.due("does " + r[0], told("1 if " + r[0]), ((Number) r[1]).longValue());
     }
 

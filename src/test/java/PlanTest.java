@@ -62,9 +62,12 @@ public final class PlanTest {
         x.house(0, 1, 0, NONE, 0);
         x.house(0, 1, 0, NONE, 0);
         x.house(1, 1, 0, NONE, 0);
+        HungerBooks one = new HungerBooks();
+        one.house(0, 1, 0, NONE, 0);
         Due.tell(x, "need 1;", 0);
         // 7 wanted: 2.8, 4.2, 5.6, 7.
         int[] given = {2, 4, 5, 7};
+        for (int d = 0; d < 4; d++) Due.due("left of 7000, digit " + d, one.judge(0, 1, 7000, d, 1), 4200 - 1400 * d);
         for (int d = 0; d < 4; d++) Due.due("left of 100, digit " + d, x.judge(0, 1, 100, d, 1), 100 - 2 * given[d]);
         Due.due("another town", x.judge(1, 1, 100, 0, 1), 98);
         Due.due("the least there is", x.plan(0, 1, 3, 0), NONE);
