@@ -1031,49 +1031,145 @@ public final class HungerBooks {
         }
     }
 
-    /** Reads ORDERS; what they reckon is laid down as code for Decrees, operands first. */
-    private static final class Reader {
+    /** Splits a text into tokens, each as long as it goes; END stands behind the last one. */
+    private static final class Lexer {
         /** Words in slots of six; a word's slot is its token's kind. */
         private static final String WORDS = "card  quota price need  ill   parcelfine  bread egg   meat  oil   roots smoke mouthskin   town  week  came  if    or    and   not   ";
         private static final int SLOT = 6;
         private static final String SIGNS = ";+-*/(){}<>=";
 
-        private static final int PRICE = 2;
-        private static final int NEED = 3;
-        private static final int FINE = 6;
-        private static final int BREAD = 7;
-        private static final int MOUTHS = 13;
-        private static final int CAME = 17;
-        private static final int IF = 18;
-        private static final int OR = 19;
-        private static final int AND = 20;
-        private static final int NOT = 21;
-        private static final int NUMBER = 22;
-        private static final int NO_TOKEN = 23;
-        private static final int END = 24;
-        private static final int FIRST_SIGN = 25;
-        private static final int SEMICOLON = 25;
-        private static final int PLUS = 26;
-        private static final int MINUS = 27;
-        private static final int TIMES = 28;
-        private static final int DIVIDED = 29;
-        private static final int OPEN = 30;
-        private static final int CLOSE = 31;
-        private static final int OPEN_BRACE = 32;
-        private static final int CLOSE_BRACE = 33;
-        private static final int LESS = 34;
-        private static final int EQUAL = 36;
+        static final int PRICE = 2;
+        static final int NEED = 3;
+        static final int FINE = 6;
+        static final int BREAD = 7;
+        static final int MOUTHS = 13;
+        static final int CAME = 17;
+        static final int IF = 18;
+        static final int OR = 19;
+        static final int AND = 20;
+        static final int NOT = 21;
+        static final int NUMBER = 22;
+        static final int NO_TOKEN = 23;
+        static final int END = 24;
+        static final int SEMICOLON = 25;
+        static final int PLUS = 26;
+        static final int MINUS = 27;
+        static final int TIMES = 28;
+        static final int DIVIDED = 29;
+        static final int OPEN = 30;
+        static final int CLOSE = 31;
+        static final int OPEN_BRACE = 32;
+        static final int CLOSE_BRACE = 33;
+        static final int LESS = 34;
+        static final int EQUAL = 36;
 
-        private static final int MOST_OPEN = 9;
         private static final int MOST_DIGITS = 6;
-        private static final int MOST_STATEMENTS = 24;
 
         private int[] text = new int[0];
         private int length = 0;
         private int place = 0;
-        private int kind = END;
+        final int[] kinds = new int[MOST_BYTES + 1];
+        final int[] starts = new int[MOST_BYTES + 1];
+        final int[] values = new int[MOST_BYTES + 1];
+        int size = 0;
+
+        Lexer() {
+        }
+
+        void split(int[] bytes, int n) {
+            text = bytes;
+            length = Math.min(n, Math.min(bytes.length, MOST_BYTES));
+            place = 0;
+            size = 0;
+            // Each round goes on by a byte at least.
+            for (int round = 0; round < MOST_BYTES && place < length; round++) {
+                int sign = text[place];
+                if (isLetter(sign)) {
+                    splitWord();
+                } else if (isDigit(sign)) {
+                    splitNumber();
+                } else if (sign == 32 || sign == 10) {
+                    place++;
+                } else {
+                    splitSign(SIGNS.indexOf((char) sign));
+                }
+            }
+            put(END, length, 0);
+        }
+
+        private void splitSign(int sign) {
+            put(sign < 0 ? NO_TOKEN : SEMICOLON + sign, place, 0);
+            place++;
+        }
+
+        private void splitWord() {
+            int start = place;
+            while (place < length && isLetter(text[place])) {
+                place++;
+            }
+            int kind = NO_TOKEN;
+            for (int word = 0; word <= NOT && kind == NO_TOKEN; word++) {
+                if (isWord(word, start)) {
+                    kind = word;
+                }
+            }
+            put(kind, start, 0);
+        }
+
+        private boolean isWord(int word, int start) {
+            int letters = place - start;
+            if (letters > SLOT) {
+                return false;
+            }
+            for (int k = 0; k < SLOT; k++) {
+                int there = k < letters ? text[start + k] : ' ';
+                if (WORDS.charAt(word * SLOT + k) != there) {
+                    return false;
+                }
+            }
+            return true;
+        }
+
+        private void splitNumber() {
+            int start = place;
+            int value = 0;
+            while (place < length && isDigit(text[place])) {
+                if (place - start < MOST_DIGITS) {
+                    value = value * 10 + text[place] - '0';
+                }
+                place++;
+            }
+            put(place - start <= MOST_DIGITS ? NUMBER : NO_TOKEN, start, value);
+        }
+
+        private void put(int kind, int start, int value) {
+            if (size < kinds.length) {
+                kinds[size] = kind;
+                starts[size] = start;
+                values[size] = value;
+                size++;
+            }
+        }
+
+        private static boolean isLetter(int sign) {
+            return sign >= 'a' && sign <= 'z';
+        }
+
+        private static boolean isDigit(int sign) {
+            return sign >= '0' && sign <= '9';
+        }
+    }
+
+    /** Reads ORDERS; what they reckon is laid down as code for Decrees, operands first. */
+    private static final class Reader {
+        private static final int MOST_OPEN = 9;
+        private static final int MOST_STATEMENTS = 24;
+
+        private final Lexer lexer = new Lexer();
+        private int next = 0;
+        private int kind = Lexer.END;
         private int value = 0;
-        /** Where the token stands that is looked at: behind a refusal the FAULT. */
+        /** Where the token stands that is looked at: behind a refusal the FAULT's place. */
         int start = 0;
         final int[] code = new int[MOST_BYTES];
         int size = 0;
@@ -1084,32 +1180,31 @@ public final class HungerBooks {
         }
 
         boolean read(int[] bytes, int n) {
-            text = bytes;
-            length = Math.min(n, bytes.length);
-            place = 0;
+            lexer.split(bytes, n);
             size = 0;
             drafted = 0;
+            next = 0;
             step();
-            for (int k = 0; k < MOST_STATEMENTS && kind != END; k++) {
+            for (int k = 0; k < MOST_STATEMENTS && kind != Lexer.END; k++) {
                 if (!statement()) {
                     return false;
                 }
             }
-            return kind == END;
+            return kind == Lexer.END;
         }
 
         private boolean statement() {
             int head = kind;
-            if (!within(head, 0, FINE)) {
+            if (head > Lexer.FINE) {
                 return false;
             }
             step();
-            boolean fits = head <= PRICE ? gradedRule(head) : settingRule(head);
-            return fits && took(SEMICOLON);
+            boolean fits = head <= Lexer.PRICE ? gradedRule(head) : settingRule(head);
+            return fits && took(Lexer.SEMICOLON);
         }
 
         private boolean gradedRule(int head) {
-            int which = kind - BREAD;
+            int which = kind - Lexer.BREAD;
             if (!isGood(which)) {
                 return false;
             }
@@ -1119,7 +1214,7 @@ public final class HungerBooks {
                 return false;
             }
             int middle = size;
-            if (took(IF) && !anyOf(0)) {
+            if (took(Lexer.IF) && !anyOf(0)) {
                 return false;
             }
             draft(new Statement(head, which, from, middle, size));
@@ -1127,7 +1222,7 @@ public final class HungerBooks {
         }
 
         private boolean settingRule(int head) {
-            if (kind != NUMBER || head == NEED && value < 1) {
+            if (kind != Lexer.NUMBER || head == Lexer.NEED && value < 1) {
                 return false;
             }
             draft(new Statement(head, value, size, size, size));
@@ -1139,8 +1234,8 @@ public final class HungerBooks {
             if (!product(depth)) {
                 return false;
             }
-            for (int k = 0; k < length && (kind == PLUS || kind == MINUS); k++) {
-                int op = kind == PLUS ? Decrees.ADD : Decrees.SUBTRACT;
+            for (int k = 0; k < MOST_BYTES && (kind == Lexer.PLUS || kind == Lexer.MINUS); k++) {
+                int op = kind == Lexer.PLUS ? Decrees.ADD : Decrees.SUBTRACT;
                 step();
                 if (!product(depth)) {
                     return false;
@@ -1154,8 +1249,8 @@ public final class HungerBooks {
             if (!atom(depth)) {
                 return false;
             }
-            for (int k = 0; k < length && (kind == TIMES || kind == DIVIDED); k++) {
-                int op = kind == TIMES ? Decrees.MULTIPLY : Decrees.DIVIDE;
+            for (int k = 0; k < MOST_BYTES && (kind == Lexer.TIMES || kind == Lexer.DIVIDED); k++) {
+                int op = kind == Lexer.TIMES ? Decrees.MULTIPLY : Decrees.DIVIDE;
                 step();
                 if (!atom(depth)) {
                     return false;
@@ -1166,14 +1261,14 @@ public final class HungerBooks {
         }
 
         private boolean atom(int depth) {
-            if (kind == OPEN && depth < MOST_OPEN) {
+            if (kind == Lexer.OPEN && depth < MOST_OPEN) {
                 step();
-                return sum(depth + 1) && took(CLOSE);
+                return sum(depth + 1) && took(Lexer.CLOSE);
             }
-            if (kind == NUMBER) {
+            if (kind == Lexer.NUMBER) {
                 lay(value);
-            } else if (within(kind, MOUTHS, CAME)) {
-                lay(Decrees.FIRST_NAME - (kind - MOUTHS));
+            } else if (kind >= Lexer.MOUTHS && kind <= Lexer.CAME) {
+                lay(Decrees.FIRST_NAME - (kind - Lexer.MOUTHS));
             } else {
                 return false;
             }
@@ -1185,7 +1280,7 @@ public final class HungerBooks {
             if (!allOf(depth)) {
                 return false;
             }
-            for (int k = 0; k < length && kind == OR; k++) {
+            for (int k = 0; k < MOST_BYTES && kind == Lexer.OR; k++) {
                 step();
                 if (!allOf(depth)) {
                     return false;
@@ -1199,7 +1294,7 @@ public final class HungerBooks {
             if (!one(depth)) {
                 return false;
             }
-            for (int k = 0; k < length && kind == AND; k++) {
+            for (int k = 0; k < MOST_BYTES && kind == Lexer.AND; k++) {
                 step();
                 if (!one(depth)) {
                     return false;
@@ -1210,13 +1305,16 @@ public final class HungerBooks {
         }
 
         private boolean one(int depth) {
-            if (kind == NOT || kind == OPEN_BRACE) {
-                return depth < MOST_OPEN && opened(depth + 1);
+            if (kind == Lexer.NOT) {
+                return depth < MOST_OPEN && denied(depth + 1);
             }
-            if (!sum(depth) || !within(kind, LESS, EQUAL)) {
+            if (kind == Lexer.OPEN_BRACE) {
+                return depth < MOST_OPEN && braced(depth + 1);
+            }
+            if (!sum(depth) || kind < Lexer.LESS || kind > Lexer.EQUAL) {
                 return false;
             }
-            int op = Decrees.BELOW - (kind - LESS);
+            int op = Decrees.BELOW - (kind - Lexer.LESS);
             step();
             if (!sum(depth)) {
                 return false;
@@ -1225,17 +1323,18 @@ public final class HungerBooks {
             return true;
         }
 
-        private boolean opened(int depth) {
-            boolean denied = kind == NOT;
+        private boolean denied(int depth) {
             step();
-            if (!denied) {
-                return anyOf(depth) && took(CLOSE_BRACE);
-            }
             if (!one(depth)) {
                 return false;
             }
             lay(Decrees.DENY);
             return true;
+        }
+
+        private boolean braced(int depth) {
+            step();
+            return anyOf(depth) && took(Lexer.CLOSE_BRACE);
         }
 
         private boolean took(int wanted) {
@@ -1244,6 +1343,16 @@ public final class HungerBooks {
             }
             step();
             return true;
+        }
+
+        /** Looks at the next token; END, the last one, is not gone by. */
+        private void step() {
+            if (next >= 0 && next < lexer.size) {
+                kind = lexer.kinds[next];
+                value = lexer.values[next];
+                start = lexer.starts[next];
+                next++;
+            }
         }
 
         /** Each piece of code has a token of its own, so the tape's bound holds for the code too. */
@@ -1259,75 +1368,6 @@ public final class HungerBooks {
                 drafts[drafted] = statement;
                 drafted++;
             }
-        }
-
-        /** Looks at the next token. */
-        private void step() {
-            while (place < length && isBlank(text[place])) {
-                place++;
-            }
-            start = place;
-            if (place >= length) {
-                kind = END;
-            } else if (isLetter(text[place])) {
-                stepWord();
-            } else if (isDigit(text[place])) {
-                stepNumber();
-            } else {
-                int sign = SIGNS.indexOf((char) text[place]);
-                kind = sign < 0 ? NO_TOKEN : FIRST_SIGN + sign;
-                place++;
-            }
-        }
-
-        private void stepWord() {
-            while (place < length && isLetter(text[place])) {
-                place++;
-            }
-            kind = NO_TOKEN;
-            for (int word = 0; word <= NOT && kind == NO_TOKEN; word++) {
-                if (isWord(word)) {
-                    kind = word;
-                }
-            }
-        }
-
-        private boolean isWord(int word) {
-            int letters = place - start;
-            if (letters > SLOT) {
-                return false;
-            }
-            for (int k = 0; k < SLOT; k++) {
-                char due = WORDS.charAt(word * SLOT + k);
-                int there = k < letters ? text[start + k] : ' ';
-                if (due != there) {
-                    return false;
-                }
-            }
-            return true;
-        }
-
-        private void stepNumber() {
-            value = 0;
-            while (place < length && isDigit(text[place])) {
-                if (place - start < MOST_DIGITS) {
-                    value = value * 10 + text[place] - '0';
-                }
-                place++;
-            }
-            kind = place - start <= MOST_DIGITS ? NUMBER : NO_TOKEN;
-        }
-
-        private static boolean isBlank(int sign) {
-            return sign == 32 || sign == 10;
-        }
-
-        private static boolean isLetter(int sign) {
-            return within(sign, 'a', 'z');
-        }
-
-        private static boolean isDigit(int sign) {
-            return within(sign, '0', '9');
         }
     }
 
@@ -1425,16 +1465,16 @@ public final class HungerBooks {
             }
             for (int k = 0; k < orders.statements.length; k++) {
                 Statement rule = orders.statements[k];
-                if (rule.kind == kind && rule.subject == good && holds(orders, rule)) {
+                if (rule.kind != kind || rule.subject != good) {
+                    continue;
+                }
+                boolean isBare = rule.middle >= rule.to;
+                if (isBare || reckon(orders.code, rule.middle, rule.to) != 0) {
                     int told = reckon(orders.code, rule.from, rule.middle);
                     return Math.max(0, Math.min(told, most));
                 }
             }
             return otherwise;
-        }
-
-        private boolean holds(Orders orders, Statement rule) {
-            return rule.middle >= rule.to || reckon(orders.code, rule.middle, rule.to) != 0;
         }
 
         private int reckon(int[] code, int from, int to) {
@@ -1448,18 +1488,19 @@ public final class HungerBooks {
                     stack[top - 1] = 1 - stack[top - 1];
                 } else if (op < DENY && top >= 2) {
                     top--;
-                    stack[top - 1] = joined(op, stack[top - 1], stack[top]);
+                    long value = joined(op, stack[top - 1], stack[top]);
+                    stack[top - 1] = (int) Math.max(-HOLD, Math.min(value, HOLD));
                 }
             }
             return stack[0];
         }
 
-        private static int joined(int op, long a, long b) {
+        private static long joined(int op, long a, long b) {
             switch (op) {
-                case ADD: return held(a + b);
-                case SUBTRACT: return held(a - b);
-                case MULTIPLY: return held(a * b);
-                case DIVIDE: return b == 0 ? 0 : held(a / b);
+                case ADD: return a + b;
+                case SUBTRACT: return a - b;
+                case MULTIPLY: return a * b;
+                case DIVIDE: return b == 0 ? 0 : a / b;
                 case BELOW: return a < b ? 1 : 0;
                 case ABOVE: return a > b ? 1 : 0;
                 case SAME: return a == b ? 1 : 0;
@@ -1467,10 +1508,6 @@ public final class HungerBooks {
                 case EITHER: return a != 0 || b != 0 ? 1 : 0;
                 default: return 0;
             }
-        }
-
-        private static int held(long value) {
-            return (int) Math.max(-HOLD, Math.min(value, HOLD));
         }
     }
 
@@ -1700,16 +1737,17 @@ public final class HungerBooks {
 
         /** Finds the best row; false if the stock is enough for none. */
         boolean solve(int weeks, int stock) {
-            int most = houses * weeks;
-            for (int week = weeks; week >= 0; week--) {
-                for (int ahead = 0; ahead < AHEADS; ahead++) {
-                    for (int ill = 0; ill <= most; ill++) {
-                        least[spot(week, ahead, ill)] = leastFrom(week, ahead, ill, weeks);
-                    }
+            for (int d = 0; d < DIGITS; d++) {
+                least[spot(weeks, d)] = 0;
+            }
+            for (int week = weeks - 1; week > 0; week--) {
+                for (int ahead = 0; ahead < DIGITS; ahead++) {
+                    fillLeast(week, ahead, houses * (weeks - week - 1));
                 }
             }
-            for (int ill = 0; ill <= most; ill++) {
-                if (least[spot(0, NO_DIGIT, ill)] <= stock) {
+            fillLeast(0, NO_DIGIT, houses * (weeks - 1));
+            for (int ill = 0; ill <= houses * weeks; ill++) {
+                if (least[spot(0, NO_DIGIT) + ill] <= stock) {
                     weigh(weeks, leastRow(weeks, ill));
                     return true;
                 }
@@ -1717,24 +1755,23 @@ public final class HungerBooks {
             return false;
         }
 
-        private static int spot(int week, int ahead, int ill) {
-            return (week * AHEADS + ahead) * WIDTH + ill;
+        private static int spot(int week, int ahead) {
+            return (week * AHEADS + ahead) * WIDTH;
         }
 
-        private long leastFrom(int week, int ahead, int ill, int weeks) {
-            if (week == weeks) {
-                return ill == 0 ? 0 : FAR;
+        /** behind: how many can be ILL in the WEEKS behind this one; so far their rows are filled. */
+        private void fillLeast(int week, int ahead, int behind) {
+            int here = spot(week, ahead);
+            for (int ill = 0; ill <= behind + houses; ill++) {
+                least[here + ill] = FAR;
             }
-            long found = FAR;
             for (int d = 0; d < DIGITS; d++) {
-                found = Math.min(found, leastWith(week, ahead, ill, d));
+                int to = here + ills[ahead * DIGITS + d];
+                int from = spot(week + 1, d);
+                for (int ill = 0; ill <= behind; ill++) {
+                    least[to + ill] = Math.min(least[to + ill], least[from + ill] + given[d]);
+                }
             }
-            return found;
-        }
-
-        private long leastWith(int week, int ahead, int ill, int d) {
-            int left = ill - ills[ahead * DIGITS + d];
-            return left < 0 ? FAR : Math.min(FAR, given[d] + least[spot(week + 1, d, left)]);
         }
 
         /** Of the rows with just so many ILL and the least given the least one: its digits first to last. */
@@ -1743,7 +1780,7 @@ public final class HungerBooks {
             int ahead = NO_DIGIT;
             int left = ill;
             for (int week = 0; week < weeks; week++) {
-                int d = leastDigit(week, ahead, left);
+                int d = leastDigit(week, ahead, left, houses * (weeks - week - 1));
                 left = Math.max(left - ills[ahead * DIGITS + d], 0);
                 ahead = d;
                 found = found * DIGITS + d;
@@ -1751,10 +1788,11 @@ public final class HungerBooks {
             return found;
         }
 
-        private int leastDigit(int week, int ahead, int ill) {
-            long due = least[spot(week, ahead, ill)];
+        private int leastDigit(int week, int ahead, int ill, int behind) {
+            long due = least[spot(week, ahead) + ill];
             for (int d = 0; d < DIGITS - 1; d++) {
-                if (leastWith(week, ahead, ill, d) == due) {
+                int left = ill - ills[ahead * DIGITS + d];
+                if (within(left, 0, behind) && least[spot(week + 1, d) + left] + given[d] == due) {
                     return d;
                 }
             }
