@@ -103,6 +103,12 @@ public final class MapsTest {
         x.exchange(2, 11, 1, 2);
         x.exchange(11, 0, 1, 1);
         Due.due("the first desk goes ahead of the second", x.round(0, 10), 2);
+        HungerBooks y = new HungerBooks();
+        y.exchange(3, 0, 1, 2);
+        y.exchange(0, 3, 1, 1);
+        y.exchange(0, 1, 1, 1);
+        y.exchange(1, 3, 1, 1);
+        Due.due("two steps by desk 0 ahead of three by 0 and 1", y.round(3, 1), 2);
         x.exchange(4, 6, 99, 50);
         Due.due("a greater gain goes ahead of all", x.round(0, 11), 6);
         Due.due("200 by 99", x.round(0, 0), 2020);

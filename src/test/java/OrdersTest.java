@@ -6,6 +6,7 @@ public final class OrdersTest {
         feeds();
         answers();
         faults();
+        ends();
         openOnes();
         statements();
         force();
@@ -76,7 +77,7 @@ public final class OrdersTest {
             "parcel 5;fine 7;ill 3^", "card bread ^-1;", "card bread 1 if mouths^;", "card bread (1^<2);", "^\u00e9",
             "card ^;", "card bread ^;", "card bread 1*^;", "card bread 1/^;", "card bread 1-^;", "card bread 1 if 1<2 or^;",
             "card bread 1 if 1<2 or 1^;", "card bread 1 if not 1^;", "card bread (1+2^;", "card bread 1 if {1<2 or 1^};",
-            "^xard bread 1;", "card ^xgg 1;", "card bread ^xouths;", "card bread 1 if ^xot 1<2;", "card bread 1 ^xf 1<2;",
+            "^cardz bread 1;", "^zcard bread 1;", "card ^breada", "^xard bread 1;", "card ^xgg 1;", "card bread ^xouths;", "card bread 1 if ^xot 1<2;", "card bread 1 ^xf 1<2;",
             "card bread 1 if 1=^=1;", "card bread 1 if {1<2} ^{1<2};", "card bread 1 if not (^not 1<2);"};
         for (String marked : texts) {
             int place = marked.indexOf('^');
@@ -88,6 +89,33 @@ public final class OrdersTest {
             Due.due("fault of byte " + sign, Due.faultOf("" + (char) sign), blank ? -1 : 0);
         }
         Due.due("fault() of a new object", x.fault(), NONE);
+    }
+
+    /** A text ends at its n-th byte, whatever stands behind it on the tape. */
+    private static void ends() {
+        Object[][] rows = {{"illness", 3, 3}, {"illness", 4, 0}, {"fine 1234567;", 11, 11}, {"fine 1234567;", 12, 5},
+            {"fine 12;;", 8, -1}, {"fine 12;;", 9, 8}, {"fine 12;", 7, 7}, {"fine 12; ?", 9, -1}, {"fine 12; ?", 10, 9}};
+        for (Object[] r : rows) {
+            HungerBooks x = new HungerBooks();
+            Due.feed(x, (String) r[0]);
+            x.orders((Integer) r[1], 0);
+            Due.due("fault of the first " + r[1] + " of '" + r[0] + "'", x.fault(), (Integer) r[2]);
+        }
+        HungerBooks cut = new HungerBooks();
+        Due.feed(cut, "fine 12;fine 34;");
+        Due.due("the first of two statements", cut.orders(8, 0), 0);
+        Due.due("it alone counts", cut.rule(0, 0, 3), 12);
+        // Texts of 500 bytes that end within a word, a number, blanks, signs, and one that is right.
+        String full = "card egg 1" + "+1".repeat(245);
+        Due.due("500 bytes, a number last", Due.faultOf(full), 500);
+        Due.due("500 bytes, a word last", Due.faultOf(full.substring(0, 499) + "k"), 499);
+        Due.due("500 bytes, a sign last", Due.faultOf(full.substring(0, 499) + ";"), 499);
+        Due.due("500 bytes of blanks", Due.faultOf(" ".repeat(500)), -1);
+        Due.due("500 signs", Due.faultOf("(".repeat(500)), 0);
+        HungerBooks x = new HungerBooks();
+        x.house(0, 1, 0, NONE, 0);
+        Due.due("500 bytes that are orders", Due.tell(x, "card egg 99" + "-1".repeat(94) + "+1".repeat(50) + "*1".repeat(100) + ";", 0), 0);
+        Due.due("their card", x.card(0, 0, 1, 0), 55);
     }
 
     private static void openOnes() {

@@ -20,6 +20,7 @@ public final class PlanTest {
         x.house(0, 1, 0, NONE, 0);
         int[][] plans = {{-1, 1, 9999, 0}, {6, 1, 9999, 0}, {0, 0, 9999, 0}, {0, 9, 9999, 0}, {0, 1, -1, 0}, {0, 1, 100000000, 0},
             {0, 1, 9999, 2}, {0, 1, 9999, -1}, {0, 1, 9999, 9}, {0, 1, 9999, 11}, {0, 1, 2799, 0}, {0, 1, 2799, 10},
+            {0, 2, 5599, 0}, {0, 3, 8399, 0}, {0, 8, 22399, 0}, {0, 8, 22399, 17}, {0, 2, 2800, 1},
             {0, Integer.MAX_VALUE, 9999, 10}, {0, Integer.MIN_VALUE, 9999, 10}};
         for (int[] p : plans) {
             Due.due("plan " + p[0] + " " + p[1] + " " + p[2] + " " + p[3], x.plan(p[0], p[1], p[2], p[3]), NONE);
@@ -121,6 +122,10 @@ public final class PlanTest {
         Due.due("one week of it", y.plan(0, 1, 99999999, 0), 0);
         Due.tell(y, "need 1;ill 0;", 0);
         Due.due("all are ill in all weeks", y.judge(0, 8, 99999999, 0, 0), 192);
+        // 25 of 63 a house and week: 24 times 25 times 8.
+        Due.due("all are ill for want of stock", y.plan(0, 8, 4800, 0), 192);
+        for (int w = 0; w < 8; w++) Due.due("digit " + w, y.plan(0, 8, 4800, 10 + w), 0);
+        Due.due("not even that", y.plan(0, 8, 4799, 0), NONE);
         // A week of 100 hundredths behind one that is short is ill too; so seven whole weeks, then a short one.
         Due.due("given 63 a house and week: 24 times 63 times 8", y.plan(0, 8, 12096, 0), 0);
         Due.due("one less", y.plan(0, 8, 12095, 0), 24);
