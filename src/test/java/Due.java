@@ -16,6 +16,10 @@ final class Due {
         due(call, got ? 1 : 0, want ? 1 : 0);
     }
 
+    static int wrong() {
+        return wrong;
+    }
+
     static void end(String name) {
         System.out.println(name + (wrong == 0 ? ": all answers are as due" : ": " + wrong + " answers are not as due"));
         if (wrong != 0) System.exit(1);
@@ -39,6 +43,11 @@ final class Due {
     static int tell(HungerBooks x, String text, int week) {
         feed(x, text);
         return x.orders(text.length(), week);
+    }
+
+    /** Texts told to new objects: a FAULT stands behind the sign ^; without that sign there is none. */
+    static void faults(String... marked) {
+        for (String text : marked) due("fault of '" + text + "'", faultOf(text.replace("^", "")), text.indexOf('^'));
     }
 
     /** The FAULT of a text told to a new object; NONE: it has none. */

@@ -59,7 +59,6 @@ public final class OrdersTest {
     }
 
     private static void faults() {
-        // A FAULT stands behind the sign ^; without it there is none.
         String[] texts = {"", "  \n ", "^;", "card^", "card ^", "card bread^", "card bread 1^", "card bread 1;",
             "card bread 1 ;^;", "^cards bread 1;", "^car", "^CARD", "card^@", "card ^breads 1;", "card bread ^x;",
             "card bread 1 ^2;", "card bread 1+^;", "card bread ^+1;", "card bread (1^;", "card bread 1^);",
@@ -79,10 +78,7 @@ public final class OrdersTest {
             "card bread 1 if 1<2 or 1^;", "card bread 1 if not 1^;", "card bread (1+2^;", "card bread 1 if {1<2 or 1^};",
             "^cardz bread 1;", "^zcard bread 1;", "card ^breada", "^xard bread 1;", "card ^xgg 1;", "card bread ^xouths;", "card bread 1 if ^xot 1<2;", "card bread 1 ^xf 1<2;",
             "card bread 1 if 1=^=1;", "card bread 1 if {1<2} ^{1<2};", "card bread 1 if not (^not 1<2);"};
-        for (String marked : texts) {
-            int place = marked.indexOf('^');
-            Due.due("fault of '" + marked + "'", Due.faultOf(marked.replace("^", "")), place);
-        }
+        Due.faults(texts);
         HungerBooks x = new HungerBooks();
         for (int sign = 0; sign < 256; sign++) {
             boolean blank = sign == 32 || sign == 10;
