@@ -41,6 +41,7 @@ final class Due {
 
     /** What orders() answers to just this text. */
     static int tell(HungerBooks x, String text, int week) {
+        if (x.count(9) != 0) throw new IllegalStateException("other bytes stand on the tape ahead of " + text);
         feed(x, text);
         return x.orders(text.length(), week);
     }
