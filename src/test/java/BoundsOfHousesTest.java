@@ -27,10 +27,6 @@ public final class BoundsOfHousesTest {
         return x;
     }
 
-    private static void passTo(HungerBooks x, int day) {
-        while (x.count(0) < day) x.pass(Math.min(60, day - x.count(0)));
-    }
-
     private static void daysAndGoods() {
         Sentences.terms(1);
         Sentences.holds("DAYS 0 to 399", () -> {
@@ -47,7 +43,7 @@ public final class BoundsOfHousesTest {
                 Due.due("rule as known by day " + day, x.rule(0, day, 0), NONE);
                 Due.due("way on day " + day, x.way(day, 0, 1, 1), NONE);
             }
-            passTo(x, 399);
+            Due.passTo(x, 399);
             Due.due("the last day", x.count(0), 399);
             Due.due("none behind it", x.pass(1), NONE);
         });
@@ -74,7 +70,7 @@ public final class BoundsOfHousesTest {
             for (int g = 0; g < 6; g++) {
                 HungerBooks x = oneHouse(1);
                 x.crop(0, g, 1);
-                passTo(x, Math.min(399, keeps[g]));
+                Due.passTo(x, Math.min(399, keeps[g]));
                 Due.due("good " + g + " ahead of its last day", x.lotOf(0, 8), 0);
                 if (keeps[g] < 399) {
                     x.pass(1);
@@ -92,7 +88,7 @@ public final class BoundsOfHousesTest {
         Due.tell(x, "price oil 57;", 57);
         int[][] rows = {{0, 1}, {6, 1}, {7, 2}, {13, 2}, {14, 3}, {398, 3}, {399, 57}};
         for (int[] r : rows) {
-            passTo(x, r[0]);
+            Due.passTo(x, r[0]);
             Due.due("price on day " + r[0], x.lotOf(x.deliver(x.crop(0, 3, 1), 1), 5), r[1]);
         }
     }
@@ -276,7 +272,7 @@ public final class BoundsOfHousesTest {
                 HungerBooks x = oneHouse(1);
                 Due.due("good that keeps " + keeps, x.good(2, 5, keeps), true);
                 x.crop(0, 2, 1);
-                passTo(x, Math.min(399, keeps));
+                Due.passTo(x, Math.min(399, keeps));
                 Due.due("it is there on day " + x.count(0), x.count(8), 1);
                 if (keeps < 399) {
                     x.pass(1);
@@ -294,10 +290,14 @@ public final class BoundsOfHousesTest {
         });
         Sentences.holds("LOTS are there.", () -> {
             Answers.unchanged("good with lots there", Answers::land, x -> x.good(0, 1, 1) ? 1 : 0, 0);
-            Answers.unchanged("good with an empty lot there", x -> {
+            Answers.unchanged("good with one lot there", x -> {
+                withoutLots(x);
+                x.crop(0, 0, 1);
+            }, x -> x.good(0, 1, 1) ? 1 : 0, 0);
+            Answers.unchanged("good with empty lots there", x -> {
                 withoutLots(x);
                 x.seize(x.crop(0, 0, 1));
-                passTo(x, 20);
+                Due.passTo(x, 20);
             }, x -> x.good(0, 1, 1) ? 1 : 0, 0);
         });
     }
@@ -410,7 +410,7 @@ public final class BoundsOfHousesTest {
         Sentences.promise(7);
         Sentences.holds("MOUTHS on a DAY (0 to 399), really (known NONE) or as KNOWN by a DAY.", () -> {
             HungerBooks x = oneHouse(4);
-            passTo(x, 398);
+            Due.passTo(x, 398);
             x.die(0);
             x.pass(1);
             x.hear(0);

@@ -64,10 +64,6 @@ public final class BoundsOfLotsTest {
         crowd(x, 400);
     }
 
-    private static void passTo(HungerBooks x, int day) {
-        while (x.count(0) < day) x.pass(Math.min(60, day - x.count(0)));
-    }
-
     private static void lot(HungerBooks x, int lot, int... want) {
         for (int what = 0; what < want.length; what++) {
             Due.due("lotOf(" + lot + ", " + what + ")", x.lotOf(lot, what), want[what]);
@@ -99,7 +95,7 @@ public final class BoundsOfLotsTest {
             HungerBooks x = oneHouse(1);
             x.pass(60);
             x.crop(0, 5, 9);
-            passTo(x, 399);
+            Due.passTo(x, 399);
             x.deliver(0, 3);
             x.buy(0, 5, 1, true);
             x.seize(2);
@@ -388,6 +384,14 @@ public final class BoundsOfLotsTest {
             Due.due("all bread", y.lotOf(bread, 7), 2);
             Due.due("one egg for one measure", y.lotOf(eggs, 7), 1);
             Due.due("no roots", y.lotOf(roots, 7), 0);
+            HungerBooks z = oneHouse(1);
+            Due.tell(z, "need 1;", 0);
+            int large = z.deal(z.crop(0, 0, 1), 1, 0, 0);
+            int small = z.deal(z.crop(0, 4, 9), 9, 0, 0);
+            z.pass(1);
+            Due.due("a large piece for one measure", z.lotOf(large, 7), 1);
+            Due.due("no small one, however much is too much", z.lotOf(small, 7), 0);
+            Due.due("all small ones are there", z.lotOf(small, 1), 9);
         });
         Sentences.holds("ATE: all their measures; LACK of the DAY: what is wanted less that, 0 at least.", () -> {
             int[][] rows = {{599, 600, 0}, {600, 600, 0}, {601, 600, 1}, {1, 200, 0}};
@@ -831,17 +835,17 @@ public final class BoundsOfLotsTest {
         Sentences.holds("above 399.", () -> {
             Answers.unchanged("one day behind the last", x -> {
                 larder(x);
-                passTo(x, 399);
+                Due.passTo(x, 399);
             }, x -> x.pass(1), NONE);
             Answers.unchanged("sixty of fifty-nine", x -> {
                 larder(x);
-                passTo(x, 340);
+                Due.passTo(x, 340);
             }, x -> x.pass(60), NONE);
             HungerBooks x = new HungerBooks();
-            passTo(x, 339);
+            Due.passTo(x, 339);
             Due.due("sixty of sixty", x.pass(60), 399);
             HungerBooks y = new HungerBooks();
-            passTo(y, 398);
+            Due.passTo(y, 398);
             Due.due("two of one", y.pass(2), NONE);
             Due.due("one of one", y.pass(1), 399);
         });
@@ -872,6 +876,13 @@ public final class BoundsOfLotsTest {
                 for (int what = 0; what <= 10; what++) Due.due("lotOf(" + lot + ", " + what + ")", x.lotOf(lot, what), NONE);
             }
             for (int what : new int[] {MIN, -1, 11, MAX}) Due.due("lotOf(0, " + what + ")", x.lotOf(0, what), NONE);
+            HungerBooks y = new HungerBooks();
+            full(y);
+            Due.due("the last of 400", y.lotOf(399, 1), 1);
+            for (int lot = 400; lot <= 402; lot++) {
+                Due.due("lotOf(" + lot + ", 1) of 400", y.lotOf(lot, 1), NONE);
+                Due.due("led(" + lot + ", 0) of 400", y.led(lot, 0), NONE);
+            }
         });
     }
 
@@ -944,7 +955,7 @@ public final class BoundsOfLotsTest {
             Due.due("lack by then", x.houseOf(0, 2), 800 + 1400 + 2000);
             HungerBooks y = oneHouse(9);
             Due.tell(y, "need 999999;", 0);
-            passTo(y, 399);
+            Due.passTo(y, 399);
             Due.due("more than an int holds", y.houseOf(0, 2), 399L * 8999991);
         });
         Sentences.holds("3 ILL DAYS", () -> {
@@ -953,7 +964,7 @@ public final class BoundsOfLotsTest {
             Due.due("none", x.houseOf(0, 3), 0);
             x.pass(1);
             Due.due("one", x.houseOf(0, 3), 1);
-            passTo(x, 399);
+            Due.passTo(x, 399);
             Due.due("all behind it", x.houseOf(0, 3), 396);
         });
         Sentences.holds("4 WITHOUT PARCELS", () -> {
@@ -964,7 +975,7 @@ public final class BoundsOfLotsTest {
             HungerBooks y = oneHouse(9);
             Due.tell(y, "need 999999;", 0);
             y.parcel(y.crop(0, 0, 5), 5, 0);
-            passTo(y, 399);
+            Due.passTo(y, 399);
             Due.due("more than an int holds", y.houseOf(0, 4), 399L * 8999991);
         });
         Sentences.holds("5 pieces BOUGHT with FORGED ones alone.", () -> {
@@ -992,7 +1003,7 @@ public final class BoundsOfLotsTest {
         Sentences.holds("LACK of a HOUSE on a DAY that went by.", () -> {
             HungerBooks x = oneHouse(1);
             x.deal(x.crop(0, 3, 3), 3, 0, 0);
-            passTo(x, 399);
+            Due.passTo(x, 399);
             int[][] want = {{0, 100}, {1, 1000}, {398, 1000}};
             for (int[] w : want) Due.due("lack on day " + w[0], x.lack(0, w[0]), w[1]);
         });
@@ -1002,7 +1013,7 @@ public final class BoundsOfLotsTest {
             x.pass(9);
             for (int day : new int[] {MIN, -1, 9, 10, 399, 400, MAX}) Due.due("day " + day, x.lack(0, day), NONE);
             for (int house : new int[] {MIN, -1, 1, 100, MAX}) Due.due("house " + house, x.lack(house, 0), NONE);
-            passTo(x, 399);
+            Due.passTo(x, 399);
             Due.due("the last day has not gone by", x.lack(0, 399), NONE);
         });
     }

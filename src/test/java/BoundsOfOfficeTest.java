@@ -193,6 +193,14 @@ public final class BoundsOfOfficeTest {
             x.exchange(1, 0, 1, 2);
             Due.due("8 by 3, two steps", x.round(0, 0), 2666);
             Due.due("two steps", x.round(0, 1), 2);
+            HungerBooks close = new HungerBooks();
+            close.exchange(0, 1, 2, 3);
+            close.exchange(1, 0, 1, 1);
+            close.exchange(0, 2, 3, 5);
+            close.exchange(2, 0, 1, 1);
+            Due.due("5 by 3 is above 3 by 2", close.round(0, 0), 1666);
+            close.exchange(0, 2, 3, 4);
+            Due.due("4 by 3 is not", close.round(0, 0), 1500);
             HungerBooks four = new HungerBooks();
             for (int k = 0; k < 4; k++) four.exchange(k, (k + 1) % 4, 1, 99);
             Due.due("four steps are none", four.round(0, 0), NONE);
@@ -233,6 +241,15 @@ public final class BoundsOfOfficeTest {
             Due.due("0 and 1 ahead of 4 and 1", x.round(5, 10) * 100 + x.round(5, 11), 1);
             x.exchange(5, 0, 1, 0);
             Due.due("4 and 1", x.round(5, 10) * 100 + x.round(5, 11), 401);
+            x.exchange(4, 1, 1, 0);
+            x.exchange(0, 5, 1, 1);
+            Due.due("4 and 0", x.round(5, 10) * 100 + x.round(5, 11), 400);
+            HungerBooks y = new HungerBooks();
+            y.exchange(5, 0, 1, 2);
+            y.exchange(0, 1, 1, 1);
+            y.exchange(1, 5, 1, 1);
+            y.exchange(0, 5, 1, 1);
+            Due.due("two steps by desk 0 ahead of three by 0 and 1", y.round(5, 1), 2);
         });
         Sentences.holds("Gain is told in thousandths, cut.", () -> {
             int[][] rows = {{99, 98, 1010}, {3, 2, 1500}, {5, 3, 1666}, {99, 1, 99000}, {2, 1, 2000}, {8, 7, 1142}};
@@ -304,6 +321,9 @@ public final class BoundsOfOfficeTest {
             x.road(0, 1, 1);
             for (int k = 1; k <= 20; k++) Due.due("post", x.post(0, 1, 1, 0), k);
             Due.due("the 21st", x.post(0, 1, 1, 0), NONE);
+            x.road(0, 1, 0);
+            Due.due("posts without a road are no way", x.way(0, 0, 1, 0), NONE);
+            Due.due("nor back", x.way(0, 1, 0, 1), NONE);
         });
         Sentences.holds("A WAY on a DAY from a PLACE to another: of all by ROADS that past the fewest POSTS (a POST on each ROAD and DAY counts by itself)", () -> {
             HungerBooks x = new HungerBooks();
@@ -479,6 +499,14 @@ public final class BoundsOfOfficeTest {
             Due.due("no row of both", both.plan(0, 1, 27999, 0), NONE);
             planned(both, 41999, 2, 13999, 0);
             planned(both, 42000, 0, 0, 1);
+            HungerBooks full = new HungerBooks();
+            for (int k = 0; k < 24; k++) full.house(0, 1, 0, NONE, 0);
+            Due.due("no row of 24 houses", full.plan(0, 8, 24 * 22400 - 1, 0), NONE);
+            planned(full, 24 * 22400, 192, 0, 0, 0, 0, 0, 0, 0, 0, 0);
+            planned(full, 24 * 44800, 0, 0, 1, 3, 1, 3, 1, 3, 1, 3);
+            HungerBooks gardens = new HungerBooks();
+            for (int k = 0; k < 24; k++) gardens.house(0, 1, 0, NONE, 4200);
+            planned(gardens, 99999999, 0, 99999999 - 24 * 22400, 0, 0, 0, 0, 0, 0, 0, 0);
         });
         Sentences.holds("A ROW is judged as a number: the first WEEK's digit times 4 to the power of n less 1, and so on.", () -> {
             HungerBooks x = oneMouth(0);

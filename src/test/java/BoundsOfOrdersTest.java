@@ -123,6 +123,11 @@ public final class BoundsOfOrdersTest {
             tells("not 1<2", false);
             tells("not 2<2", true);
             tells("not not 1<2", true);
+            tells("not 3>2", false);
+            tells("not 2=2", false);
+            tells("not {1<2 and 1<2}", false);
+            tells("not {1<2 or 1<2}", false);
+            tells("not {1>2 or 1>2}", true);
             tells("not 1>2 and 1>2", false);
             tells("not {1>2 and 1>2}", true);
             tells("{1<2 or 1<2} and 1>2", false);
@@ -152,10 +157,16 @@ public final class BoundsOfOrdersTest {
             Due.tell(x, "need 1;", 0);
             Due.due("the least NEED", x.rule(0, 0, 0), 1);
         });
-        Sentences.holds("Tokens as long as they go: words of letters a to z, digits, signs", () ->
+        Sentences.holds("Tokens as long as they go: words of letters a to z, digits, signs", () -> {
             Due.faults("ill1;fine2;", "card egg 1if 1<2and 3<4;", "^cardegg 1;", "card egg mouths^1;", "card egg 1^kin;",
                 "card ^eggkin;", "card egg 1 ^ifnot", "^illl 1;", "^il 1;", "^car", "card egg 1 if not1<2;", "card egg 1 ^ifnot 1<2;",
-                "card egg 12 ^34;", "card egg 1+(2)*(3);", "^Card egg 1;", "^ca", "card egg^A;", "card egg 1^.5;"));
+                "card egg 12 ^34;", "card egg 1+(2)*(3);", "^Card egg 1;", "^ca", "card egg^A;", "card egg 1^.5;");
+            for (int sign = 0; sign < 256; sign++) {
+                boolean letter = sign >= 'a' && sign <= 'z';
+                boolean blank = sign == 32 || sign == 10;
+                Due.due("byte " + sign + " behind a word", Due.faultOf("card" + (char) sign + "egg 1;"), blank ? -1 : letter ? 0 : 4);
+            }
+        });
         Sentences.holds("between them blanks (bytes 32 and 10).", () -> {
             Due.faults(" \n card \n egg\n1 ;\n\n", "card\negg\n1\nif\n1\n<\n2\n;");
             for (int sign = 0; sign < 256; sign++) {

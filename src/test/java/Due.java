@@ -25,6 +25,11 @@ final class Due {
         if (wrong != 0) System.exit(1);
     }
 
+    /** Lets DAYS go by up to one; a pass() that is refused does not hold up the test. */
+    static void passTo(HungerBooks x, int day) {
+        for (int k = 0; k < 20 && x.count(0) < day; k++) x.pass(Math.min(60, day - x.count(0)));
+    }
+
     /** Feeds a text, with blanks behind it up to the next twenty. */
     static int feed(HungerBooks x, String text) {
         int there = x.count(9);
