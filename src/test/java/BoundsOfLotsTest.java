@@ -683,7 +683,20 @@ public final class BoundsOfLotsTest {
             crowd(y, 398);
             y.deliver(0, 9);
             Due.due("one of 399", y.buy(0, 3, 1, true), 10);
+            Due.due("30 of lots with 1 and 40", shopOf(1, 40).buy(0, 3, 30, true), 0);
+            Due.due("41 of lots with 40 and 1", shopOf(40, 1).buy(0, 3, 41, true), 0);
+            Due.due("42 of lots with 40, 1 and 1", shopOf(40, 1, 1).buy(0, 3, 42, true), -5);
         });
+    }
+
+    /** 398 LOTS, those in the SHOP with so many pieces each, for nothing. */
+    private static HungerBooks shopOf(int... pieces) {
+        HungerBooks x = new HungerBooks();
+        crowd(x, 382);
+        for (int part : pieces) x.deliver(0, part);
+        for (int k = 382 + pieces.length; k < 398; k++) x.crop(0, 0, 1);
+        Due.tell(x, "price oil 0;", 0);
+        return x;
     }
 
     private static void deal() {

@@ -160,7 +160,8 @@ public final class BoundsOfOrdersTest {
         Sentences.holds("Tokens as long as they go: words of letters a to z, digits, signs", () -> {
             Due.faults("ill1;fine2;", "card egg 1if 1<2and 3<4;", "^cardegg 1;", "card egg mouths^1;", "card egg 1^kin;",
                 "card ^eggkin;", "card egg 1 ^ifnot", "^illl 1;", "^il 1;", "^car", "card egg 1 if not1<2;", "card egg 1 ^ifnot 1<2;",
-                "card egg 12 ^34;", "card egg 1+(2)*(3);", "^Card egg 1;", "^ca", "card egg^A;", "card egg 1^.5;");
+                "card egg 12 ^34;", "card egg 1+(2)*(3);", "^Card egg 1;", "^ca", "card egg^A;", "card egg 1^.5;",
+                "^xard egg 1;", "^carx egg 1;", "^cxrd egg 1;", "^parcels 1;", "^parce 1;", "card egg ^mouthss;", "^qquota egg 1;");
             for (int sign = 0; sign < 256; sign++) {
                 boolean letter = sign >= 'a' && sign <= 'z';
                 boolean blank = sign == 32 || sign == 10;
@@ -212,7 +213,8 @@ public final class BoundsOfOrdersTest {
         Sentences.holds("FAULT: the place of the first byte of the first token (or byte that begins none) with which no such text goes on", () ->
             Due.faults("^x", "^?", "^9", "^bread", "  ^bread", "card  ^mouths", "card egg 1 \n ^card", "card egg 1 if 1 < 2 ^week",
                 "card egg 1^\t;", "card egg 1^!", "card egg ^\u00ff1;", "ill 1; ^\u0000", "ill 1;^A", "ill 1; ill ^ill", "ill 1;^-",
-                "^cards ?", "card^? egg 1;"));
+                "^cards ?", "card^? egg 1;", "^" + "(".repeat(500), "^" + "a".repeat(500), "^" + "1".repeat(500),
+                "card egg 1" + "+1".repeat(244) + "+^k"));
         Sentences.holds("(a number beyond its bounds, the tenth open, too)", () ->
             Due.faults("fine ^1234567;", "fine   ^1234567", "need  ^0;", "card egg  ((((((((( ^( 1;", "card egg 1 if {{{{{{{{{ ^{",
                 "card egg 1 if not not not not not not not not not  ^not"));
@@ -224,6 +226,9 @@ public final class BoundsOfOrdersTest {
             Due.feed(x, "fine 123;");
             x.orders(7, 0);
             Due.due("the text ends within a number", x.fault(), 7);
+            Due.feed(x, "illness");
+            x.orders(3, 0);
+            Due.due("the text ends within a word", x.fault(), 3);
         });
         Sentences.holds("the 25th statement: where it begins.", () -> {
             String all = "ill 1;".repeat(24);

@@ -5,7 +5,10 @@ import java.nio.file.Files;
 import java.nio.file.Path;
 import java.util.ArrayList;
 import java.util.Arrays;
+import java.util.HashMap;
+import java.util.HashSet;
 import java.util.List;
+import java.util.Map;
 import java.util.Set;
 import java.util.TreeSet;
 import java.util.regex.Matcher;
@@ -31,6 +34,8 @@ public final class LanguageTest {
     public static void main(String[] args) throws Exception {
         face();
         classes();
+        types();
+        calls();
         source(Files.readString(Path.of(System.getProperty("hungerbooks.source", "src/main/java/HungerBooks.java"))));
         Due.end("LanguageTest");
     }
@@ -78,6 +83,7 @@ public final class LanguageTest {
         yes("at most twelve classes", all().size() <= 12);
         for (Class<?> c : all()) {
             yes(c + " is static or the class itself", c == HungerBooks.class || Modifier.isStatic(c.getModifiers()));
+            yes(c + " is not public", c == HungerBooks.class || !Modifier.isPublic(c.getModifiers()));
             Due.due("classes inside " + c, c == HungerBooks.class ? 0 : c.getDeclaredClasses().length, 0);
             int fields = 0;
             for (Field f : c.getDeclaredFields()) {
@@ -91,6 +97,88 @@ public final class LanguageTest {
                 yes(m + " is written, not made", !m.isSynthetic());
             }
         }
+    }
+
+    private static final Set<Class<?>> PLAIN = Set.of(int.class, long.class, short.class, byte.class, char.class, boolean.class,
+        double.class, float.class);
+    private static final Set<Class<?>> CONSTANT = Set.of(int.class, long.class, boolean.class, char.class, String.class, int[].class,
+        long[].class, char[].class, byte[].class);
+    private static final Set<String> LIBRARY = Set.of("java/lang/Object.<init>()V", "java/lang/Math.max(II)I", "java/lang/Math.max(JJ)J",
+        "java/lang/Math.min(II)I", "java/lang/Math.min(JJ)J", "java/lang/String.charAt(I)C", "java/lang/String.indexOf(I)I",
+        "java/util/Arrays.fill([II)V", "java/util/Arrays.fill([JJ)V", "java/util/Arrays.copyOf([II)[I", "[I.clone()Ljava/lang/Object;",
+        "java/lang/System.arraycopy(Ljava/lang/Object;ILjava/lang/Object;II)V");
+    private static final int MOST_DEEP = 8;
+
+    private static void types() {
+        for (Class<?> c : all()) {
+            for (Field f : c.getDeclaredFields()) {
+                boolean isStatic = Modifier.isStatic(f.getModifiers());
+                yes(f + " is of a type that may be", isStatic ? CONSTANT.contains(f.getType()) : isAllowed(f.getType()));
+            }
+            for (Method m : c.getDeclaredMethods()) {
+                yes(m + " answers a type that may be", m.getReturnType() == void.class || isAllowed(m.getReturnType()));
+                for (Class<?> p : m.getParameterTypes()) yes(m + " takes types that may be", isAllowed(p));
+            }
+        }
+    }
+
+    private static boolean isAllowed(Class<?> type) {
+        Class<?> one = type.isArray() ? type.getComponentType() : type;
+        return PLAIN.contains(one) || all().contains(one) || type == String.class || type.isArray() && one.isArray()
+            && PLAIN.contains(one.getComponentType());
+    }
+
+    /** Rules 4, 6, 8 and 11 by the bytecode: the library's part, no throwing, how deep calls go. */
+    private static void calls() throws Exception {
+        Map<String, Set<String>> graph = new HashMap<>();
+        for (Class<?> c : all()) {
+            ClassFile file = new ClassFile(c);
+            graph.putAll(file.calls);
+            for (String refused : file.refused) yes(refused, false);
+        }
+        for (String caller : graph.keySet()) {
+            for (String called : graph.get(caller)) yes(caller + " calls " + called, graph.containsKey(called) || LIBRARY.contains(called));
+        }
+        Map<String, Set<String>> reached = new HashMap<>();
+        for (String method : graph.keySet()) reached.put(method, reachedFrom(method, graph));
+        Map<String, Integer> depths = new HashMap<>();
+        int deepest = 0;
+        for (String method : graph.keySet()) {
+            deepest = Math.max(deepest, depthOf(method, graph, reached, depths));
+            boolean recurs = reached.get(method).contains(method);
+            yes(method + " may call itself", !recurs || method.startsWith("HungerBooks$Reader."));
+        }
+        yes("calls go " + deepest + " deep", deepest <= MOST_DEEP);
+    }
+
+    private static Set<String> reachedFrom(String start, Map<String, Set<String>> graph) {
+        Set<String> reached = new HashSet<>();
+        List<String> work = new ArrayList<>(graph.get(start));
+        while (!work.isEmpty()) {
+            String method = work.remove(work.size() - 1);
+            if (graph.containsKey(method) && reached.add(method)) work.addAll(graph.get(method));
+        }
+        return reached;
+    }
+
+    /** Methods that call one another count as one. */
+    private static int depthOf(String method, Map<String, Set<String>> graph, Map<String, Set<String>> reached, Map<String, Integer> depths) {
+        if (depths.containsKey(method)) return depths.get(method);
+        Set<String> group = new HashSet<>();
+        group.add(method);
+        for (String other : reached.get(method)) {
+            if (reached.get(other).contains(method)) group.add(other);
+        }
+        int below = 0;
+        for (String member : group) {
+            for (String called : graph.get(member)) {
+                if (graph.containsKey(called) && !group.contains(called)) {
+                    below = Math.max(below, depthOf(called, graph, reached, depths));
+                }
+            }
+        }
+        depths.put(method, below + 1);
+        return below + 1;
     }
 
     private static void source(String text) {
