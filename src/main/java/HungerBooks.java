@@ -1674,14 +1674,15 @@ public final class HungerBooks {
         private static final int NO_DIGIT = 4;
         private static final int AHEADS = 5;
         private static final int WIDTH = MOST_HOUSES * MOST_WEEKS_PLANNED + 1;
-        private static final long FAR = 1000000000000000L;
+        /** Above all stocks: what is given beyond them is not told apart, so an int holds it. */
+        private static final int FAR = 1000000000;
 
         private int houses = 0;
         private final long[] given = new long[DIGITS];
         private final int[] ills = new int[AHEADS * DIGITS];
         private final long[] lacks = new long[AHEADS];
         /** The least given from a WEEK on, by the digit ahead of it, for just so many ILL from it on. */
-        private final long[] least = new long[(MOST_WEEKS_PLANNED + 1) * AHEADS * WIDTH];
+        private final int[] least = new int[(MOST_WEEKS_PLANNED + 1) * DIGITS * WIDTH];
         private int illInAll = 0;
         long spent = 0;
         private int row = 0;
@@ -1755,8 +1756,9 @@ public final class HungerBooks {
             return false;
         }
 
+        /** The first WEEK has NO_DIGIT ahead of it and no other: it stands where digit 0 would. */
         private static int spot(int week, int ahead) {
-            return (week * AHEADS + ahead) * WIDTH;
+            return (week * DIGITS + ahead % DIGITS) * WIDTH;
         }
 
         /** behind: how many can be ILL in the WEEKS behind this one; so far their rows are filled. */
@@ -1769,7 +1771,7 @@ public final class HungerBooks {
                 int to = here + ills[ahead * DIGITS + d];
                 int from = spot(week + 1, d);
                 for (int ill = 0; ill <= behind; ill++) {
-                    least[to + ill] = Math.min(least[to + ill], least[from + ill] + given[d]);
+                    least[to + ill] = (int) Math.min(least[to + ill], least[from + ill] + given[d]);
                 }
             }
         }
@@ -1789,7 +1791,7 @@ public final class HungerBooks {
         }
 
         private int leastDigit(int week, int ahead, int ill, int behind) {
-            long due = least[spot(week, ahead) + ill];
+            int due = least[spot(week, ahead) + ill];
             for (int d = 0; d < DIGITS - 1; d++) {
                 int left = ill - ills[ahead * DIGITS + d];
                 if (within(left, 0, behind) && least[spot(week + 1, d) + left] + given[d] == due) {

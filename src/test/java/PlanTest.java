@@ -158,7 +158,8 @@ public final class PlanTest {
                 x.house(0, m, 0, NONE, random.nextInt(random.nextBoolean() ? 99999 : 9000));
                 mouths += m;
             }
-            int need = 1 + random.nextInt(1500);
+            // With the greater ones most rows want more than any stock.
+            int need = 1 + random.nextInt(round % 4 == 3 ? 90000 : 1500);
             Due.tell(x, "need " + need + ";ill " + random.nextInt(700) + ";", 0);
             int weeks = round < 3 ? 8 : round < 12 ? 6 : 1 + random.nextInt(5);
             long all = 7L * need * mouths * weeks;

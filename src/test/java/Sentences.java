@@ -29,28 +29,57 @@ final class Sentences {
         }
     }
 
+    static void whatItIs() {
+        open("What it is", between("## What it is", "==== 1."));
+    }
+
+    /** The sentence between the first line and the public face. */
+    static void useOfAnObject() {
+        open("How long an object is used", between("==== 1.", "## The public face"));
+    }
+
+    static void publicFace() {
+        open("The public face", between("## The public face", "## Terms"));
+    }
+
     /** What follows is of the Terms behind ==== n. */
     static void terms(int n) {
         String from = n == 1 ? "## Terms" : "==== " + n + ".";
-        section("==== " + n, from, n == 4 ? "The constants:" : "==== " + (n + 1) + ".");
+        open("==== " + n, between(from, n == 4 ? "The constants:" : "==== " + (n + 1) + "."));
     }
 
     static void constants() {
-        section("The constants", "The constants:", "## Promise 1:");
+        open("The constants", between("The constants:", "## Promise 1:"));
     }
 
     static void promise(int n) {
-        section("Promise " + n, "## Promise " + n + ":", n == 38 ? "## Not promised" : "## Promise " + (n + 1) + ":");
+        String text = wholePromise(n);
+        open("Promise " + n, text.substring(text.indexOf("`: ") + 3));
     }
 
-    private static void section(String name, String from, String to) {
+    /** The method's name, its face, then what it promises. */
+    static String wholePromise(int n) {
+        return between("## Promise " + n + ":", n == 38 ? "## Not promised" : "## Promise " + (n + 1) + ":");
+    }
+
+    static void notPromised() {
+        open("Not promised", between("## Not promised", ""));
+    }
+
+    /** The words of the section that is being read. */
+    static String text() {
+        return SECTIONS.get(heading);
+    }
+
+    private static String between(String from, String to) {
+        int start = DOC.indexOf(from);
+        int end = to.isEmpty() ? DOC.length() : DOC.indexOf(to, start + from.length());
+        if (start < 0 || end < 0) throw new IllegalStateException("the document has nothing from " + from + " to " + to);
+        return DOC.substring(start + from.length(), end);
+    }
+
+    private static void open(String name, String text) {
         heading = name;
-        int start = DOC.indexOf(from, DOC.indexOf("## Terms"));
-        int end = DOC.indexOf(to, start + from.length());
-        if (start < 0 || end < 0) throw new IllegalStateException("the document has no " + name);
-        String text = DOC.substring(start + from.length(), end);
-        // A promise's name and the method's face stand ahead of what it promises.
-        if (name.startsWith("Promise")) text = text.substring(text.indexOf("`: ") + 3);
         SECTIONS.put(name, text);
         QUOTED.put(name, new boolean[text.length()]);
     }
